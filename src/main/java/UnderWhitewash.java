@@ -1186,7 +1186,7 @@ public final class UnderWhitewash {
             return fault < 0 && sort == SIGN && at < length && signsOf(level).indexOf((char) tape[at]) >= 0;
         }
 
-        void readLevel(int level, int open, int nots) {
+        private void readLevel(int level, int open, int nots) {
             if (level >= PIECE) {
                 readPiece(open, nots);
                 return;
@@ -1201,7 +1201,7 @@ public final class UnderWhitewash {
             }
         }
 
-        void readPiece(int open, int nots) {
+        private void readPiece(int open, int nots) {
             int name = nameRead();
             if (sort == DIGITS && behind - at <= MOST_DIGITS) {
                 putLeaf(numberRead());
