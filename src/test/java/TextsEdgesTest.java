@@ -276,7 +276,7 @@ public final class TextsEdgesTest {
   private static void oneBehindAnother() {
     UnderWhitewash x = new UnderWhitewash();
     for (int k = 0; k < 14; k++) {
-      for (String wrong : new String[] {"fee x", "fee 1 2", "fee 12345", "fee (1"}) Edges.say(x, wrong);
+      for (String wrong : new String[] {"fee 1 2", "fee (1", "fee 1s", k % 2 == 0 ? "fee 12345" : "fee x"}) Edges.say(x, wrong);
       due(29, "what was read ahead of it does not matter", Edges.say(x, "fee " + "1+".repeat(45) + (10 + k)), k);
       due(29, "it gives", x.fee(), 55 + k);
       due(30, "46 NUMBERS", x.textTold(k, 1), 46);
