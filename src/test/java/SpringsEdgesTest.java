@@ -302,8 +302,8 @@ public final class SpringsEdgesTest {
   // ---------------------------------------------------------------- bounds that no 512 calls reach
 
   /*
-   * SHOWN, DUG: 99999 at most. No 512 calls come that far, and what later calls answer is free by the
-   * document; this class keeps the bound all the same, and here it is seen to do so.
+   * SHOWN, DUG: 99999 at most. By a rough reckoning no 512 calls come that far, and what later calls answer
+   * is free by the document; this class keeps the bound all the same, and here it is seen to do so.
    */
   private static void shownAtMost() {
     UnderWhitewash x = new UnderWhitewash();
