@@ -29,6 +29,7 @@ public final class LanguageTest {
 
   public static void main(String[] args) throws Exception {
     face();
+    faceOfTheDocument(Files.readString(Path.of("../shared/DOC.md")));
     classes();
     source(Files.readString(Path.of("src/main/java/UnderWhitewash.java")));
     System.out.println(wrong == 0 ? "the face and the language are as told" : wrong + " rules are not kept");
@@ -57,6 +58,25 @@ public final class LanguageTest {
     must(made.length == 1 && made[0].getParameterCount() == 0 && Modifier.isPublic(made[0].getModifiers()), "one public constructor");
     must(String.join(" ", methods).equals(FACE), "the methods of the face");
     must(String.join(" ", constants).equals(CONSTANTS), "the constants of the face");
+  }
+
+  /** The document's own lines: every constant with its value, every method with so many parameters, all ints. */
+  private static void faceOfTheDocument(String doc) throws Exception {
+    int from = doc.indexOf("public final class UnderWhitewash {");
+    String block = doc.substring(from, doc.indexOf("```", from));
+    Matcher constant = Pattern.compile("([A-Z]+) = (-?\\d+)").matcher(block);
+    int constants = 0, methods = 0;
+    for (; constant.find(); constants++)
+      must(UnderWhitewash.class.getField(constant.group(1)).getInt(null) == Integer.parseInt(constant.group(2)), constant.group());
+    Matcher method = Pattern.compile("public int (\\w+)\\(([^)]*)\\);").matcher(block);
+    for (; method.find(); methods++) {
+      int many = method.group(2).isEmpty() ? 0 : method.group(2).split(",").length;
+      Class<?>[] ints = new Class<?>[many];
+      java.util.Arrays.fill(ints, int.class);
+      UnderWhitewash.class.getMethod(method.group(1), ints);
+    }
+    must(constants == CONSTANTS.split(" ").length, "as many constants as the document has");
+    must(methods == FACE.split(" ").length, "as many methods as the document has");
   }
 
   private static void classes() {
